@@ -690,6 +690,7 @@ public final class RecordCounter {
         private static final long ALL_BUT_SIGN = 0x7FFFFFFFFFFFFFFFL, FRACTION = 0xFFFFFFFFFFFFFL;
 
         private final long[] letters = new long[MOST_WORDS];
+        private final int[] lengths = new int[MOST_WORDS];
         // The letters with as many empty places behind them that all WORDS are of one length:
         // their ORDER is then that of the numbers.
         private final long[] places = new long[MOST_WORDS];
@@ -713,6 +714,7 @@ public final class RecordCounter {
                 place *= LETTER_BASE;
             }
             letters[wordCount] = told;
+            lengths[wordCount] = length;
             places[wordCount] = place;
             return wordCount++;
         }
@@ -731,19 +733,15 @@ public final class RecordCounter {
             return length <= MOST_LETTERS ? length : 0;
         }
 
-        private boolean isWord(long bits) {
-            return bits >= 0 && bits < wordCount;
-        }
-
-        long lettersOf(long bits) {
-            return isWord(bits) ? lengthOf(letters[(int) bits]) : 0;
+        int lettersOf(long bits) {
+            return bits >= 0 && bits < wordCount ? lengths[(int) bits] : 0;
         }
 
         boolean areBits(int kind, long bits) {
             switch (kind) {
                 case LONG:
                 case REAL: return true;
-                case WORD: return isWord(bits);
+                case WORD: return bits >= 0 && bits < wordCount;
                 case DAY: return isDay(bits);
                 case TRUTH: return bits == 0 || bits == 1;
                 default: return false;
@@ -920,12 +918,13 @@ public final class RecordCounter {
             return row >= 0 && row < size && column >= 0 && column < columns;
         }
 
+        // These two look at the bounds themselves, for each VALUE that is worked on goes through them.
         boolean misses(int row, int column) {
-            return !has(row, column) || (missing[row] >> column & 1) == 1;
+            return row < 0 || row >= size || column < 0 || column >= columns || (missing[row] >> column & 1) == 1;
         }
 
         long bitsOf(int row, int column) {
-            return has(row, column) ? bits[row * columns + column] : 0;
+            return row < 0 || row >= size || column < 0 || column >= columns ? 0 : bits[row * columns + column];
         }
 
         /** One ROW more, all ABSENT; false, if there is no room for it. */
@@ -1012,33 +1011,30 @@ public final class RecordCounter {
     private static final class Sight {
         private final int[] kinds = new int[MOST_COLUMNS];
         private final long[] bits = new long[MOST_COLUMNS];
-        private final boolean[] missing = new boolean[MOST_COLUMNS];
+        private int missing;
 
+        /** A ROW comes into sight from a column on. */
         void place(Rows from, int row, int start) {
-            for (int c = 0; c < from.columns; c++) {
-                int column = start + c;
-                if (holds(column)) {
-                    kinds[column] = from.kinds[c];
-                    bits[column] = from.bitsOf(row, c);
-                    missing[column] = from.misses(row, c);
-                }
+            int width = from.columns;
+            if (row < 0 || row >= from.size || start < 0 || start + width > MOST_COLUMNS) {
+                return;
             }
-        }
-
-        private static boolean holds(int column) {
-            return column >= 0 && column < MOST_COLUMNS;
+            System.arraycopy(from.kinds, 0, kinds, start, width);
+            System.arraycopy(from.bits, row * width, bits, start, width);
+            int others = ~(((1 << width) - 1) << start);
+            missing = missing & others | from.missing[row] << start;
         }
 
         int kindAt(int column) {
-            return holds(column) ? kinds[column] : LONG;
+            return column >= 0 && column < MOST_COLUMNS ? kinds[column] : LONG;
         }
 
         long bitsAt(int column) {
-            return holds(column) ? bits[column] : 0;
+            return column >= 0 && column < MOST_COLUMNS ? bits[column] : 0;
         }
 
         boolean lacks(int column) {
-            return !holds(column) || missing[column];
+            return column < 0 || column >= MOST_COLUMNS || (missing >> column & 1) == 1;
         }
 
         boolean isAlikeIn(Test key) {
@@ -1636,7 +1632,9 @@ public final class RecordCounter {
                 case OF_FIRST: return tellsCell(own.rows, firstRow, x.a);
                 case OF_LAST: return tellsCell(own.rows, lastRow, x.a);
                 case MEAN: return foundCount > 0 && gives(meanOfFound());
-                default: return tellsSorted(x.code, own.hasColumn(x.a) ? own.kinds[x.a] : LONG);
+                default:
+                    sortFound(own.hasColumn(x.a) ? own.kinds[x.a] : LONG);
+                    return tellsSorted(x.code);
             }
         }
 
@@ -1695,8 +1693,7 @@ public final class RecordCounter {
             return mean + rest / foundCount;
         }
 
-        private boolean tellsSorted(int collector, int kind) {
-            sortFound(kind);
+        private boolean tellsSorted(int collector) {
             if (collector == HOW_MANY_UNLIKE) {
                 return gives(unlikeFound());
             }

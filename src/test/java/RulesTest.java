@@ -1,0 +1,186 @@
+import java.lang.management.ManagementFactory;
+import java.lang.reflect.Constructor;
+import java.lang.reflect.Field;
+import java.lang.reflect.Method;
+import java.lang.reflect.Modifier;
+import java.nio.charset.StandardCharsets;
+import java.nio.file.Files;
+import java.nio.file.Path;
+import java.util.ArrayList;
+import java.util.Arrays;
+import java.util.List;
+import java.util.Set;
+import java.util.TreeSet;
+import java.util.regex.Matcher;
+import java.util.regex.Pattern;
+
+/** The public face, what LANGUAGE.md leaves of Java, and the room that dear runs take. */
+public final class RulesTest {
+    private static final String[] FACE = {"word(long)int", "table(int,int)int", "insert(int)int", "put(int,int,int,long)int",
+        "absent(int,int,int)int", "delete(int,int)int", "fill(int,int,int,int)int", "value(int,int,int)long", "records(int)int",
+        "compare(int,int,int,long)int", "pair(int,int,int)int", "logic(int,int,int)int", "fits(int,int)int", "source(int)int",
+        "where(int,int)int", "join(int,int,int,int)int", "work(int,int,int,int)int", "group(int,int)int",
+        "collect(int,int,int)int", "order(int,int,boolean)int", "once(int)int", "cut(int,int,int)int", "also(int,int)int",
+        "columns(int)int", "kind(int,int)int", "run(int,int)int", "cell(int,int)long", "isAbsent(int,int)int", "digest()int",
+        "looked(int)int", "cost(int,int)long", "expected(int)int", "keep(int)int", "kept(int)int", "keptCell(int,int,int)long",
+        "begin()int", "commit()int", "rollback()int", "transfer(int,int)int", "count(int)int", "clear()int"};
+    private static final String SOURCE = "src/main/java/RecordCounter.java";
+    // The room holds 7.3 million fields and elements, most of which are longs here.
+    private static final long MOST_BYTES = 30_000_000;
+
+    private static int wrong = 0;
+
+    private static void must(boolean holds, String what) {
+        if (!holds) {
+            wrong++;
+            System.out.println("broken: " + what);
+        }
+    }
+
+    private static String told(Method m) {
+        List<String> types = new ArrayList<>();
+        for (Class<?> type : m.getParameterTypes()) types.add(type.getName());
+        return m.getName() + "(" + String.join(",", types) + ")" + m.getReturnType().getName();
+    }
+
+    private static void face() {
+        Class<?> face = RecordCounter.class;
+        Set<String> open = new TreeSet<>();
+        Set<String> names = new TreeSet<>();
+        for (Method m : face.getDeclaredMethods()) {
+            boolean isPublic = Modifier.isPublic(m.getModifiers());
+            must(isPublic || Modifier.isPrivate(m.getModifiers()), "rule 1: " + m);
+            must(!isPublic || !Modifier.isStatic(m.getModifiers()), "rule 1, static: " + m);
+            if (isPublic) {
+                open.add(told(m));
+                names.add(m.getName());
+            }
+        }
+        must(open.equals(new TreeSet<>(Arrays.asList(FACE))), "the face's methods are " + open);
+        must(face.getModifiers() == (Modifier.PUBLIC | Modifier.FINAL), "the class is public and final");
+        Constructor<?>[] made = face.getDeclaredConstructors();
+        must(made.length == 1 && Modifier.isPublic(made[0].getModifiers()) && made[0].getParameterCount() == 0, "the constructor");
+        Set<String> constants = new TreeSet<>();
+        for (Field f : face.getDeclaredFields()) {
+            if (Modifier.isPublic(f.getModifiers())) constants.add(f.getType() + " " + f.getName());
+            else must(Modifier.isPrivate(f.getModifiers()), "rule 1: " + f);
+        }
+        must(constants.equals(Set.of("int BAD", "int KIND", "int STATE", "int FULL", "int MUCH", "long NO")), "constants " + constants);
+        List<Class<?>> inside = new ArrayList<>(Arrays.asList(face.getDeclaredClasses()));
+        must(inside.size() <= 12, "rule 11: classes");
+        for (Class<?> c : inside) {
+            must(Modifier.isStatic(c.getModifiers()) && Modifier.isPrivate(c.getModifiers()), "rule 2: " + c);
+        }
+        inside.add(face);
+        for (Class<?> c : inside) {
+            rulesOf(c, names);
+        }
+    }
+
+    private static void rulesOf(Class<?> c, Set<String> names) {
+        int fields = 0;
+        for (Field f : c.getDeclaredFields()) {
+            boolean constant = Modifier.isStatic(f.getModifiers());
+            fields += constant ? 0 : 1;
+            must(!constant || Modifier.isFinal(f.getModifiers()), "rule 5: " + f);
+        }
+        must(fields <= 20, "rule 11: fields of " + c);
+        for (Method m : c.getDeclaredMethods()) {
+            must(m.getParameterCount() <= 7, "rule 11: " + m);
+            must(Modifier.isPublic(m.getModifiers()) || !names.contains(m.getName()), "rule 1, a name of the face: " + m);
+            must(!m.isSynthetic(), "made by the compiler: " + m);
+        }
+    }
+
+    private static void source() throws Exception {
+        String text = Files.readString(Path.of(SOURCE), StandardCharsets.UTF_8);
+        must(text.chars().allMatch(c -> c < 128), "plain characters");
+        String code = text.replaceAll("(?s)/\\*.*?\\*/", "").replaceAll("//[^\n]*", "");
+        String[] words = {"throw", "throws", "try", "catch", "synchronized", "assert", "double", "float", "import", "package",
+            "volatile", "native", "Object", "hashCode", "toString", "yield"};
+        for (String word : words) {
+            must(!Pattern.compile("\\b" + word + "\\b").matcher(code).find(), "the source has " + word);
+        }
+        must(!code.contains("->") && !code.contains("::") && !code.contains("\""), "lambdas, method references, texts");
+        Set<String> library = Set.of("Math.min", "Math.max", "Math.abs", "Math.floorDiv", "Math.floorMod", "Integer.bitCount",
+            "System.arraycopy");
+        Matcher call = Pattern.compile("\\b(Math|Integer|Long|System|Arrays|String|Double)\\.\\w+").matcher(code);
+        while (call.find()) {
+            must(library.contains(call.group()), "rule 4: " + call.group());
+        }
+        methodLengths(text.split("\n"));
+    }
+
+    private static void methodLengths(String[] lines) {
+        Pattern head = Pattern.compile("^(    |        )(?=\\S)(?!if|for|while|switch|else)[\\w\\[\\] ]+\\(.*\\) \\{$");
+        for (int i = 0; i < lines.length; i++) {
+            Matcher m = head.matcher(lines[i]);
+            if (!m.matches()) continue;
+            int end = i;
+            while (end < lines.length && !lines[end].equals(m.group(1) + "}")) end++;
+            must(end - i + 1 <= 60, "rule 11, length of " + lines[i].trim());
+        }
+    }
+
+    // ---- the room
+
+    private static long allocated() {
+        com.sun.management.ThreadMXBean bean = (com.sun.management.ThreadMXBean) ManagementFactory.getThreadMXBean();
+        return bean.getThreadAllocatedBytes(Thread.currentThread().getId());
+    }
+
+    private static void room(String what, Runnable calls) {
+        calls.run();
+        long before = allocated();
+        calls.run();
+        long bytes = allocated() - before;
+        must(bytes <= MOST_BYTES, what + " takes " + bytes + " bytes");
+    }
+
+    /** Tables of six columns, joins of twelve and all cleared again, for 512 calls. */
+    private static void madeAndCleared() {
+        RecordCounter x = new RecordCounter();
+        for (int calls = 0; calls < 512;) {
+            x.clear();
+            x.table(6, 0);
+            x.begin();
+            x.commit();
+            x.pair(0, 0, 6);
+            int six = x.source(0);
+            for (int i = 0; i < 39; i++) x.join(six, six, 0, 0);
+            calls += 45;
+        }
+    }
+
+    /** Forty queries of many rows, told anew again and again. */
+    private static void runAgain() {
+        RecordCounter x = new RecordCounter();
+        x.table(3, 0);
+        x.fill(0, 50, 1, 9);
+        x.pair(0, 0, 3);
+        int q = x.source(0);
+        int four = x.also(x.also(q, q), x.also(q, q));
+        for (int i = 0; i < 36; i++) x.join(four, four, 0, 2 + i % 2);
+        x.keep(39);
+        for (int i = 0; i < 150; i++) {
+            x.begin();
+            x.put(0, i % 50, 0, i % 5);
+            x.run(39 - i % 30, 0);
+            x.rollback();
+        }
+    }
+
+    private static void manyObjects() {
+        for (int i = 0; i < 256; i++) new RecordCounter().clear();
+    }
+
+    public static void main(String[] args) throws Exception {
+        face();
+        source();
+        room("a run that makes and clears", RulesTest::madeAndCleared);
+        room("a run that runs again", RulesTest::runAgain);
+        room("a run of many objects", RulesTest::manyObjects);
+        System.out.println(wrong == 0 ? "all rules hold" : wrong + " rules are broken");
+        if (wrong != 0) System.exit(1);
+    }
+}
