@@ -153,9 +153,6 @@ public final class RecordCounter {
         if (looks && !values.areBits(kind, bits)) {
             return BAD;
         }
-        if (testCount >= MOST_TESTS) {
-            return FULL;
-        }
         Test made = new Test(Test.COMPARE, code, column, column);
         made.kind = looks ? kind : LONG;
         made.bits = looks ? values.settled(kind, bits) : 0;
@@ -166,7 +163,7 @@ public final class RecordCounter {
         if (code < 0 || code > Test.ABOVE || !isTestColumn(a) || !isTestColumn(b)) {
             return BAD;
         }
-        return testCount >= MOST_TESTS ? FULL : addTest(new Test(Test.PAIR, code, a, b));
+        return addTest(new Test(Test.PAIR, code, a, b));
     }
 
     public int logic(int way, int a, int b) {
@@ -176,7 +173,7 @@ public final class RecordCounter {
             return BAD;
         }
         int size = 1 + first.size + (second == null ? 0 : second.size);
-        if (testCount >= MOST_TESTS || size > MOST_TEST_SIZE) {
+        if (size > MOST_TEST_SIZE) {
             return FULL;
         }
         Test made = new Test(Test.LOGIC, way, 0, 0);
@@ -192,7 +189,7 @@ public final class RecordCounter {
         if (asked == null || of == null) {
             return BAD;
         }
-        return asked.suits(of.kinds, 1) ? 1 : 0;
+        return Test.suits(asked, of.kinds, 1) ? 1 : 0;
     }
 
     // ---- queries
@@ -216,7 +213,7 @@ public final class RecordCounter {
         if (from == null || asked == null) {
             return BAD;
         }
-        if (!asked.suits(from.kinds, 1)) {
+        if (!Test.suits(asked, from.kinds, 1)) {
             return KIND;
         }
         if (queries.areFull()) {
@@ -239,7 +236,7 @@ public final class RecordCounter {
             return KIND;
         }
         int[] both = joinedKinds(left.kinds, right.kinds);
-        if (!asked.suits(both, 1)) {
+        if (!Test.suits(asked, both, 1)) {
             return KIND;
         }
         if (queries.areFull()) {
@@ -249,7 +246,7 @@ public final class RecordCounter {
         made.second = right;
         made.test = asked;
         made.code = way;
-        made.keyTest = asked.keyBetween(width, 1);
+        made.keyTest = Test.keyBetween(asked, width, 1);
         return queries.add(made);
     }
 
@@ -623,7 +620,7 @@ public final class RecordCounter {
         if (asked == null) {
             return BAD;
         }
-        if (!asked.suits(from.kinds, 1) || from.kinds.length >= MOST_COLUMNS) {
+        if (!Test.suits(asked, from.kinds, 1) || from.kinds.length >= MOST_COLUMNS) {
             return KIND;
         }
         if (queries.areFull()) {
@@ -1067,54 +1064,59 @@ public final class RecordCounter {
             size = 1;
         }
 
-        boolean suits(int[] kinds, int depth) {
+        /** Whether it FITS columns of these KINDS. (A NOT has no second part, which hinders nothing.) */
+        private static boolean suits(Test test, int[] kinds, int depth) {
+            if (test == null) {
+                return true;
+            }
             if (depth > MOST_TEST_SIZE) {
                 return false;
             }
-            if (form == LOGIC) {
-                return (first == null || first.suits(kinds, depth + 1))
-                    && (second == null || second.suits(kinds, depth + 1));
+            if (test.form == LOGIC) {
+                return suits(test.first, kinds, depth + 1) && suits(test.second, kinds, depth + 1);
             }
+            int a = test.a;
+            int b = test.b;
             if (a < 0 || a >= kinds.length || b < 0 || b >= kinds.length) {
                 return false;
             }
-            if (form == PAIR) {
+            if (test.form == PAIR) {
                 return kinds[a] == kinds[b];
             }
-            return code == IS_MISSING || kinds[a] == kind;
+            return test.code == IS_MISSING || kinds[a] == test.kind;
         }
 
         /** The KEY of a JOIN whose first COLUMNS, so many, are those of q; null, if it is not KEYED. */
-        Test keyBetween(int width, int depth) {
-            if (depth > MOST_TEST_SIZE) {
+        private static Test keyBetween(Test test, int width, int depth) {
+            if (test == null || depth > MOST_TEST_SIZE) {
                 return null;
             }
-            if (form == PAIR) {
-                return code == LIKE && (a < width) != (b < width) ? this : null;
+            if (test.form == PAIR) {
+                return test.code == LIKE && (test.a < width) != (test.b < width) ? test : null;
             }
-            if (form != LOGIC || code != BOTH || first == null || second == null) {
+            if (test.form != LOGIC || test.code != BOTH) {
                 return null;
             }
-            Test found = first.keyBetween(width, depth + 1);
-            return found != null ? found : second.keyBetween(width, depth + 1);
+            Test found = keyBetween(test.first, width, depth + 1);
+            return found != null ? found : keyBetween(test.second, width, depth + 1);
         }
 
-        int judge(Sight row, Values values, int depth) {
-            if (depth > MOST_TEST_SIZE) {
+        private static int judge(Test test, Sight row, Values values, int depth) {
+            if (test == null || depth > MOST_TEST_SIZE) {
                 return SAYS_UNKNOWN;
             }
-            if (form != LOGIC) {
-                return judgeValues(row, values);
+            if (test.form != LOGIC) {
+                return test.judgeValues(row, values);
             }
-            int one = first == null ? SAYS_UNKNOWN : first.judge(row, values, depth + 1);
-            if (code == NOT) {
+            int one = judge(test.first, row, values, depth + 1);
+            if (test.code == NOT) {
                 return SAYS_YES - one;
             }
-            if (second == null || one == (code == BOTH ? SAYS_NO : SAYS_YES)) {
+            if (one == (test.code == BOTH ? SAYS_NO : SAYS_YES)) {
                 return one;
             }
-            int other = second.judge(row, values, depth + 1);
-            return code == BOTH ? Math.min(one, other) : Math.max(one, other);
+            int other = judge(test.second, row, values, depth + 1);
+            return test.code == BOTH ? Math.min(one, other) : Math.max(one, other);
         }
 
         private int judgeValues(Sight row, Values values) {
@@ -1345,21 +1347,15 @@ public final class RecordCounter {
         }
 
         private void tellWhere(Query x, Rows from) {
-            if (x.test == null) {
-                return;
-            }
             for (int row = 0; row < from.size; row++) {
                 sight.place(from, row, 0);
-                if (x.test.judge(sight, values, 1) == Test.SAYS_YES) {
+                if (Test.judge(x.test, sight, values, 1) == Test.SAYS_YES) {
                     x.rows.addLike(from, row);
                 }
             }
         }
 
         private void tellJoin(Query x, Rows from, Rows other) {
-            if (x.test == null) {
-                return;
-            }
             for (int row = 0; row < from.size && !x.much; row++) {
                 boolean alone = true;
                 sight.place(from, row, 0);
@@ -1370,7 +1366,7 @@ public final class RecordCounter {
                         continue;
                     }
                     x.keyPairs++;
-                    if (x.test.judge(sight, values, 1) != Test.SAYS_YES) {
+                    if (Test.judge(x.test, sight, values, 1) != Test.SAYS_YES) {
                         continue;
                     }
                     alone = false;
@@ -1395,12 +1391,9 @@ public final class RecordCounter {
         }
 
         private void tellTestWork(Query x, Rows from) {
-            if (x.test == null) {
-                return;
-            }
             for (int row = 0; row < from.size; row++) {
                 sight.place(from, row, 0);
-                int said = x.test.judge(sight, values, 1);
+                int said = Test.judge(x.test, sight, values, 1);
                 if (x.rows.addLike(from, row) && said != Test.SAYS_UNKNOWN) {
                     x.rows.write(from.columns, said == Test.SAYS_YES ? 1 : 0);
                 }

@@ -474,6 +474,13 @@ public final class PromisesTest {
         due("SIZE 63", x.logic(0, thirtyOne, thirtyOne), FULL);
         due("bad and too great", x.logic(0, forty, 99), BAD);
         dueRun("SIZE 40", x.cut(x.work(q, 12, forty, 0), 0, 2), "1,1,0|1,0,1");
+        int chain = a;
+        for (int i = 0; i < 39; i++) {
+            chain = x.logic(2, chain, 0);
+        }
+        due("39 NOTS fit", x.fits(chain, q), 1);
+        dueRun("39 NOTS", x.where(q, chain), "0,1|0,0|0,-");
+        due("40 NOTS", x.logic(2, chain, 0), FULL);
         fillTests();
         due("the 101st", x.logic(2, a, 0), FULL);
     }
@@ -654,6 +661,8 @@ public final class PromisesTest {
         int later = x.work(q, 8, 0, 2);
         due("kind of 8", x.kind(later, 6), DAY);
         dueRun("8 beyond the DAYS", x.group(later, 64), "-");
+        tableOf("3000000,-6000000|-3000000,6000000|0,3000000|1,3000000|0,-3000000|-1,-3000000|0,6000001", DAY, LONG);
+        dueRun("8 from end to end", x.group(x.work(x.source(1), 8, 0, 1), 4), "-3000000|3000000|-");
         dueRun("8 within", x.group(x.work(q, 8, 1, 2), 64), "-2999999|-1|-");
         int length = x.work(q, 9, 3, -3);
         due("kind of 9", x.kind(length, 6), LONG);
@@ -756,7 +765,11 @@ public final class PromisesTest {
         dueRun("a low one", x.collect(low, 9, 0), "-6148914691236517207");
         dueRun("most often, of several the least", x.collect(all, 10, 0), "" + NO);
         dueRun("the middle one", x.collect(all, 8, 0), "-5");
-        dueRun("the middle one of two", x.collect(back, 8, 0), "-5");
+        dueRun("the middle one of four", x.collect(back, 8, 0), "-5");
+        int single = x.group(x.cut(q, 2, 1), 0);
+        for (int collector : new int[] {2, 3, 4, 6, 7, 8, 9, 10}) {
+            dueRun("of one VALUE by " + collector, x.collect(single, collector, 0), "-5");
+        }
         x.word(letters("b"));
         x.word(letters("a"));
         x.word(letters("ab"));
@@ -1021,10 +1034,18 @@ public final class PromisesTest {
         due("a join with itself", x.looked(0), 4 + 8 + 5);
         x.run(x.collect(x.group(x.work(self, 0, 0, 1), 1), 0, 0), 2);
         due("a collect", x.looked(0), 17);
+        x.put(0, 1, 0, 2);
+        x.run(self, 2);
+        due("behind a change", x.looked(0), 17);
+        x.put(0, 1, 0, 7);
+        x.run(self, 2);
+        due("behind another one", x.looked(0), 4 + 8 + 3);
+        x.run(self, 3);
+        due("by MERGE", x.looked(0), 4 + 16 + 3);
         due("what -1", x.looked(-1), BAD);
         due("what 2", x.looked(2), BAD);
         x.run(99, 1);
-        due("a refused run", x.looked(0), 17);
+        due("a refused run", x.looked(0), 23);
     }
 
     private static void costs() {
