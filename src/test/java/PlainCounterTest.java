@@ -826,7 +826,7 @@ public final class PlainCounterTest {
         return number(y.query(q) == null ? 3 : y.query(q).kinds.size());
     }
 
-    private static void tablesCall(RecordCounter x, Plain y) {
+    private static void tablesCall(Told x, Plain y) {
         int t = number(y.tables.size());
         PlainTable at = y.t(t);
         int record = at != null && !at.records.isEmpty() && draw(4) > 0
@@ -868,7 +868,7 @@ public final class PlainCounterTest {
         }
     }
 
-    private static void testsCall(RecordCounter x, Plain y) {
+    private static void testsCall(Told x, Plain y) {
         int q = some(y.queries);
         int columns = y.query(q) == null ? 4 : Math.min(12, y.query(q).kinds.size() + draw(4));
         int a = draw(30) == 0 ? draw(30) - 3 : number(columns);
@@ -912,7 +912,7 @@ public final class PlainCounterTest {
         return all.isEmpty() || draw(10) == 0 ? some(y.tests) : all.get(draw(all.size()));
     }
 
-    private static void queriesCall(RecordCounter x, Plain y) {
+    private static void queriesCall(Told x, Plain y) {
         int q = some(y.queries);
         int r = some(y.queries);
         PlainQuery of = y.query(q);
@@ -983,7 +983,7 @@ public final class PlainCounterTest {
         }
     }
 
-    private static void runsCall(RecordCounter x, Plain y) {
+    private static void runsCall(Told x, Plain y) {
         int q = some(y.queries);
         int row = number(y.latest.size());
         int c = number(y.latestColumns);
@@ -1023,7 +1023,7 @@ public final class PlainCounterTest {
         return number(y.tables.size());
     }
 
-    private static void changesCall(RecordCounter x, Plain y) {
+    private static void changesCall(Told x, Plain y) {
         int q = some(y.queries);
         int k = number(y.keptOnes.size());
         switch (draw(10)) {
@@ -1054,7 +1054,7 @@ public final class PlainCounterTest {
         }
     }
 
-    private static Plain start(RecordCounter x) {
+    private static Plain start(Told x) {
         Plain y = new Plain();
         for (int i = 0; i < 3; i++) {
             int kinds = draw(5) | draw(5) << 3 | draw(5) << 6;
@@ -1069,7 +1069,7 @@ public final class PlainCounterTest {
         return y;
     }
 
-    private static Plain play(RecordCounter x, int calls) {
+    private static Plain play(Told x, int calls) {
         Plain y = start(x);
         int bias = draw(5);
         for (int i = 0; i < calls; i++) {
@@ -1094,7 +1094,7 @@ public final class PlainCounterTest {
         return y;
     }
 
-    private static void compareAtTheEnd(RecordCounter x, Plain y) {
+    private static void compareAtTheEnd(Told x, Plain y) {
         for (int t = 0; t < 6; t++) {
             for (int record = 0; y.t(t) != null && record < 200; record++) {
                 for (int c = 0; c < 6; c++) same("value() at the end", x.value(t, record, c), y.value(t, record, c));
@@ -1116,7 +1116,7 @@ public final class PlainCounterTest {
         long start = args.length > 1 ? Long.parseLong(args[1]) : 1;
         for (int i = 0; i < runs && wrong == 0; i++) {
             seed = (start + i) * 7919L;
-            RecordCounter x = new RecordCounter();
+            Told x = new Told();
             compareAtTheEnd(x, play(x, 60 + draw(440)));
             if (wrong != 0) System.out.println("in the drawn run " + (start + i));
         }

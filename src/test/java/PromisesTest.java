@@ -1,127 +1,8 @@
 /** For each promise of the document: ordinary inputs, the edges that it names, and wrong inputs. */
-public final class PromisesTest {
-    private static final int BAD = -1, KIND = -2, STATE = -3, FULL = -4, MUCH = -5;
-    private static final long NO = Long.MIN_VALUE, NAN = 9221120237041090560L;
-    private static final int LONG = 0, REAL = 1, WORD = 2, DAY = 3, TRUTH = 4;
-    private static final int[] NOT_THERE = {-1, 99, Integer.MIN_VALUE, Integer.MAX_VALUE};
-
-    private static int wrong = 0;
-    private static int promise = 0;
-    private static RecordCounter x;
-
-    private static void due(String what, long got, long want) {
-        if (got != want) {
-            wrong++;
-            System.out.println("promise " + promise + ": " + what + " answered " + got + ", due is " + want);
-        }
-    }
-
-    private static void dueRows(String what, String got, String want) {
-        if (!got.equals(want)) {
-            wrong++;
-            System.out.println("promise " + promise + ": " + what + " has " + got + ", due is " + want);
-        }
-    }
-
-    // ---- helps: rows are told as "1,2|-,3", where - is an absent value and () a row without columns
-
-    private static void fresh(int number) {
-        promise = number;
-        x = new RecordCounter();
-    }
-
-    private static int kinds(int... each) {
-        int all = 0;
-        for (int c = 0; c < each.length; c++) {
-            all |= each[c] << 3 * c;
-        }
-        return all;
-    }
-
-    private static int tableOf(String rows, int... kinds) {
-        int t = x.table(kinds.length, kinds(kinds));
-        load(t, rows);
-        return t;
-    }
-
-    private static int longs(String rows, int columns) {
-        return tableOf(rows, new int[columns]);
-    }
-
-    private static void load(int t, String rows) {
-        if (rows.isEmpty()) {
-            return;
-        }
-        for (String row : rows.split("\\|")) {
-            int record = x.insert(t);
-            String[] cells = row.split(",");
-            for (int c = 0; c < cells.length; c++) {
-                if (!cells[c].equals("-")) {
-                    due("put() of " + cells[c], x.put(t, record, c, Long.parseLong(cells[c])), 1);
-                }
-            }
-        }
-    }
-
-    private static String latest() {
-        StringBuilder s = new StringBuilder();
-        for (int row = 0; row < x.count(5); row++) {
-            s.append(row > 0 ? "|" : "").append(x.count(6) == 0 ? "()" : "");
-            for (int c = 0; c < x.count(6); c++) {
-                s.append(c > 0 ? "," : "");
-                s.append(x.isAbsent(row, c) == 1 ? "-" : Long.toString(x.cell(row, c)));
-            }
-        }
-        return s.toString();
-    }
-
-    private static void dueRun(String what, int q, String want) {
-        int rows = want.isEmpty() ? 0 : want.split("\\|").length;
-        for (int plan = 3; plan >= 0; plan--) {
-            due("run() of " + what + " by plan " + plan, x.run(q, plan), rows);
-            dueRows(what + " by plan " + plan, latest(), want);
-        }
-    }
-
-    private static String keptRows(int k, int columns) {
-        StringBuilder s = new StringBuilder();
-        for (int row = 0; row < x.kept(k); row++) {
-            s.append(row > 0 ? "|" : "");
-            for (int c = 0; c < columns; c++) {
-                s.append(c > 0 ? "," : "").append(x.keptCell(k, row, c));
-            }
-        }
-        return s.toString();
-    }
-
-    private static long real(double d) {
-        return Double.doubleToLongBits(d);
-    }
-
-    /** 1 is a, 28 is aa .. */
-    private static long letters(String s) {
-        long l = 0;
-        for (char c : s.toCharArray()) {
-            l = 27 * l + c - 'a' + 1;
-        }
-        return l;
-    }
-
-    private static void fillQueries(int t) {
-        while (x.count(3) < 40) {
-            x.source(t);
-        }
-    }
-
-    private static void fillTests() {
-        while (x.count(2) < 100) {
-            x.pair(0, 0, 1);
-        }
-    }
-
+public final class PromisesTest extends Checks {
     // ---- words, tables
 
-    private static void newObject() {
+    static void newObject() {
         fresh(1);
         for (int what = 0; what < 8; what++) {
             due("count(" + what + ")", x.count(what), 0);
@@ -142,7 +23,7 @@ public final class PromisesTest {
         due("count of another object", x.count(0), 0);
     }
 
-    private static void words() {
+    static void words() {
         fresh(2);
         due("a", x.word(letters("a")), 0);
         due("aa", x.word(letters("aa")), 1);
@@ -163,7 +44,7 @@ public final class PromisesTest {
         due("count", x.count(0), 100);
     }
 
-    private static void tables() {
+    static void tables() {
         fresh(3);
         due("none", x.table(0, 0), BAD);
         due("7 columns", x.table(7, 0), BAD);
@@ -193,7 +74,7 @@ public final class PromisesTest {
         due("count", x.count(1), 6);
     }
 
-    private static void inserts() {
+    static void inserts() {
         fresh(4);
         x.table(2, 0);
         for (int t : NOT_THERE) {
@@ -227,7 +108,7 @@ public final class PromisesTest {
         due("records", x.records(0), 19);
     }
 
-    private static void puts() {
+    static void puts() {
         fresh(5);
         x.word(1);
         x.table(5, kinds(LONG, REAL, WORD, DAY, TRUTH));
@@ -261,7 +142,7 @@ public final class PromisesTest {
         }
     }
 
-    private static void absents() {
+    static void absents() {
         fresh(6);
         x.table(2, 0);
         load(0, "1,2|3,4");
@@ -281,7 +162,7 @@ public final class PromisesTest {
         due("one that went", x.absent(0, 1, 0), BAD);
     }
 
-    private static void deletes() {
+    static void deletes() {
         fresh(7);
         x.table(1, 0);
         load(0, "1|2|3");
@@ -300,7 +181,7 @@ public final class PromisesTest {
         due("insert", x.insert(0), 3);
     }
 
-    private static void fills() {
+    static void fills() {
         fresh(8);
         int[] kinds = {LONG, REAL, WORD, DAY, TRUTH, LONG};
         x.table(6, kinds(kinds));
@@ -341,7 +222,7 @@ public final class PromisesTest {
         due("the first draw from 5", x.value(2, 0, 0), 364);
     }
 
-    private static void valuesAndRecords() {
+    static void valuesAndRecords() {
         fresh(9);
         x.table(2, 0);
         load(0, "5,-|6,7");
@@ -353,7 +234,7 @@ public final class PromisesTest {
             due("record " + n, x.value(0, n, 0), NO);
             due("column " + n, x.value(0, 0, n), NO);
         }
-        promise = 10;
+        promise(10);
         due("records", x.records(0), 2);
         x.delete(0, 0);
         due("records", x.records(0), 1);
@@ -364,7 +245,7 @@ public final class PromisesTest {
 
     // ---- tests
 
-    private static void compares() {
+    static void compares() {
         fresh(11);
         x.word(letters("b"));
         due("code -1", x.compare(-1, 0, 0, 0), BAD);
@@ -412,7 +293,7 @@ public final class PromisesTest {
         due("count", x.count(2), 100);
     }
 
-    private static void pairs() {
+    static void pairs() {
         fresh(12);
         due("code -1", x.pair(-1, 0, 0), BAD);
         due("code 3", x.pair(3, 0, 0), BAD);
@@ -440,7 +321,7 @@ public final class PromisesTest {
         due("bad and full", x.pair(0, 0, 24), BAD);
     }
 
-    private static void logics() {
+    static void logics() {
         fresh(13);
         // Each record tells one pair of truths: 1 YES, 0 NO, absent UNKNOWN.
         tableOf("1,1|1,0|1,-|0,1|0,0|0,-|-,1|-,0|-,-", TRUTH, TRUTH);
@@ -485,7 +366,7 @@ public final class PromisesTest {
         due("the 101st", x.logic(2, a, 0), FULL);
     }
 
-    private static void fitting() {
+    static void fitting() {
         fresh(14);
         x.word(1);
         tableOf("", LONG, WORD, LONG, DAY);
@@ -512,7 +393,7 @@ public final class PromisesTest {
 
     // ---- queries
 
-    private static void sources() {
+    static void sources() {
         fresh(15);
         longs("1,2|3,-|5,6", 2);
         due("source", x.source(0), 0);
@@ -531,7 +412,7 @@ public final class PromisesTest {
         due("count", x.count(3), 40);
     }
 
-    private static void wheres() {
+    static void wheres() {
         fresh(16);
         longs("1,2|3,-|5,6|5,1", 2);
         int q = x.source(0);
@@ -552,7 +433,7 @@ public final class PromisesTest {
         due("FULL", x.where(q, above), FULL);
     }
 
-    private static void joins() {
+    static void joins() {
         fresh(17);
         longs("1,10|2,20|-,30|3,40", 2);
         longs("2,5|1,6|2,7|-,8", 2);
@@ -594,7 +475,7 @@ public final class PromisesTest {
         due("FULL", x.join(q, r, like, 0), FULL);
     }
 
-    private static void works() {
+    static void works() {
         fresh(18);
         long max = Long.MAX_VALUE;
         longs("7,2|-7,2|" + max + ",1|" + NO + ",-1|5,0|-,3|3,-|" + (1L << 62) + ",2|-1," + NO + "|0," + NO, 2);
@@ -646,7 +527,7 @@ public final class PromisesTest {
         due("FULL by a TEST", x.work(q, 12, 0, 1), FULL);
     }
 
-    private static void worksOfOtherKinds() {
+    static void worksOfOtherKinds() {
         fresh(18);
         x.word(letters("b"));
         x.word(letters("a"));
@@ -684,7 +565,7 @@ public final class PromisesTest {
         due("10 of two KINDS", x.work(q, 10, 3, 5), KIND);
     }
 
-    private static void groups() {
+    static void groups() {
         fresh(19);
         longs("1,5,7|2,5,8|1,5,9|-,5,7|1,6,7|-,5,8", 3);
         int q = x.source(0);
@@ -710,7 +591,7 @@ public final class PromisesTest {
         due("FULL", x.group(q, 1), FULL);
     }
 
-    private static void collects() {
+    static void collects() {
         fresh(20);
         longs("1,5|2,-|1,3|1,-|1,3|1,8|1,5|2,-", 2);
         int q = x.source(0);
@@ -747,7 +628,7 @@ public final class PromisesTest {
         due("FULL", x.collect(g, 1, 1), FULL);
     }
 
-    private static void collectsOfEdges() {
+    static void collectsOfEdges() {
         fresh(20);
         long max = Long.MAX_VALUE;
         longs(max + "|" + max + "|-5|" + NO + "|" + NO, 1);
@@ -789,7 +670,7 @@ public final class PromisesTest {
         due("mean of REALS", x.collect(g, 9, 1), KIND);
     }
 
-    private static void orders() {
+    static void orders() {
         fresh(21);
         longs("2,1|-,2|1,3|2,4|-,5|3,6|1,7", 2);
         int q = x.source(0);
@@ -815,7 +696,7 @@ public final class PromisesTest {
         due("bad and full", x.order(q, 2, true), BAD);
     }
 
-    private static void oncesAndCuts() {
+    static void oncesAndCuts() {
         fresh(22);
         longs("1,2|-,2|1,2|1,-|-,2|0,-|1,0|-,0", 2);
         int q = x.source(0);
@@ -826,7 +707,7 @@ public final class PromisesTest {
         for (int n : NOT_THERE) {
             due("once(" + n + ")", x.once(n), BAD);
         }
-        promise = 23;
+        promise(23);
         int from = x.count(3);
         due("cut", x.cut(q, 1, 2), from);
         dueRun("cut", from, "-,2|1,2");
@@ -842,12 +723,12 @@ public final class PromisesTest {
         fillQueries(0);
         due("FULL", x.cut(q, 0, 0), FULL);
         due("bad and full", x.cut(q, -1, 0), BAD);
-        promise = 22;
+        promise(22);
         due("FULL", x.once(q), FULL);
         due("bad and full", x.once(40), BAD);
     }
 
-    private static void alsos() {
+    static void alsos() {
         fresh(24);
         longs("1,2|3,-", 2);
         longs("5,6", 2);
@@ -873,7 +754,7 @@ public final class PromisesTest {
         due("FULL", x.also(q, r), FULL);
     }
 
-    private static void columnsAndKinds() {
+    static void columnsAndKinds() {
         fresh(25);
         tableOf("", REAL, WORD, DAY);
         int q = x.source(0);
@@ -883,7 +764,7 @@ public final class PromisesTest {
         for (int n : NOT_THERE) {
             due("columns(" + n + ")", x.columns(n), BAD);
         }
-        promise = 26;
+        promise(26);
         due("kind", x.kind(q, 0), REAL);
         due("kind", x.kind(q, 2), DAY);
         due("of a group", x.kind(1, 0), WORD);
@@ -897,7 +778,7 @@ public final class PromisesTest {
 
     // ---- runs
 
-    private static void runs() {
+    static void runs() {
         fresh(27);
         longs("1|2|2", 1);
         int q = x.source(0);
@@ -939,7 +820,7 @@ public final class PromisesTest {
         due("and 196", x.run(more, 1), 196);
     }
 
-    private static void outerJoinsAtTheLimit() {
+    static void outerJoinsAtTheLimit() {
         fresh(27);
         longs("", 1);
         x.fill(0, 50, 1, 3);
@@ -959,7 +840,7 @@ public final class PromisesTest {
         due("by 3", x.run(x.join(twoHundred, x.also(lone, lone), below, 3), 2), 4);
     }
 
-    private static void latestRun() {
+    static void latestRun() {
         fresh(28);
         longs("1,-|" + NO + ",4", 2);
         int q = x.source(0);
@@ -978,7 +859,7 @@ public final class PromisesTest {
         x.put(0, 0, 0, 77);
         x.run(9, 1);
         due("as it was run", x.cell(0, 0), 1);
-        promise = 29;
+        promise(29);
         due("absent", x.isAbsent(0, 1), 1);
         due("not absent", x.isAbsent(0, 0), 0);
         due("NO itself", x.isAbsent(1, 0), 0);
@@ -986,7 +867,7 @@ public final class PromisesTest {
             due("row " + n, x.isAbsent(n, 0), BAD);
             due("column " + n, x.isAbsent(0, n), BAD);
         }
-        promise = 30;
+        promise(30);
         int d = 31 * (31 * (31 * (31 * 7 + 1) + 1) + Long.hashCode(NO)) + 4;
         due("digest", x.digest(), d);
         x.put(0, 0, 0, -1);
@@ -999,7 +880,7 @@ public final class PromisesTest {
         due("no ROWS", x.digest(), 7);
     }
 
-    private static void looks() {
+    static void looks() {
         fresh(31);
         longs("1,1|1,2|2,3|-,4", 2);
         longs("1,1|1,9|-,3", 2);
@@ -1048,7 +929,7 @@ public final class PromisesTest {
         due("a refused run", x.looked(0), 23);
     }
 
-    private static void costs() {
+    static void costs() {
         fresh(32);
         longs("1,1|1,2|2,3|-,4|5,5", 2);
         longs("1,1|1,9|-,3", 2);
@@ -1071,7 +952,7 @@ public final class PromisesTest {
         }
         due("plan 0", x.cost(j, 0), BAD);
         due("plan 4", x.cost(j, 4), BAD);
-        promise = 27;
+        promise(27);
         x.run(j, 0);
         due("the least COST", x.looked(1), 2);
         x.run(v, 0);
@@ -1081,7 +962,7 @@ public final class PromisesTest {
         due("by PAIRS", x.cost(s, 1), 6);
         x.run(s, 0);
         due("PAIRS are the cheapest", x.looked(1), 1);
-        promise = 32;
+        promise(32);
         int a = q;
         for (int i = 0; i < 25; i++) {
             a = x.also(a, a);
@@ -1090,7 +971,7 @@ public final class PromisesTest {
         due("great E by KEYS", x.cost(x.join(a, a, like, 0), 2), 5 + 3000000);
     }
 
-    private static void expectations() {
+    static void expectations() {
         fresh(33);
         longs("1,1|1,2|2,3|-,4|5,5|6,6", 2);
         longs("1,1|1,9|-,3", 2);
@@ -1130,7 +1011,7 @@ public final class PromisesTest {
 
     // ---- kept results, changes
 
-    private static void keeping() {
+    static void keeping() {
         fresh(34);
         longs("3|1|2", 1);
         int q = x.source(0);
@@ -1140,19 +1021,19 @@ public final class PromisesTest {
         for (int n : NOT_THERE) {
             due("keep(" + n + ")", x.keep(n), BAD);
         }
-        promise = 35;
+        promise(35);
         due("kept", x.kept(0), 3);
-        dueRows("kept", keptRows(0, 1), "1|2|3");
+        dueText("kept", keptRows(0, 1), "1|2|3");
         load(0, "0");
-        dueRows("behind an insert", keptRows(0, 1), "0|1|2|3");
+        dueText("behind an insert", keptRows(0, 1), "0|1|2|3");
         x.put(0, 0, 0, -7);
-        dueRows("behind a put", keptRows(0, 1), "-7|0|1|2");
+        dueText("behind a put", keptRows(0, 1), "-7|0|1|2");
         x.begin();
         x.delete(0, 1);
         x.transfer(x.cut(q, 0, 1), 0);
-        dueRows("in a change", keptRows(0, 1), "-7|-7|0|2");
+        dueText("in a change", keptRows(0, 1), "-7|-7|0|2");
         x.rollback();
-        dueRows("taken back", keptRows(0, 1), "-7|0|1|2");
+        dueText("taken back", keptRows(0, 1), "-7|0|1|2");
         x.fill(0, 56, 1, 2);
         due("behind a fill", x.kept(1), 60);
         int a = x.also(q, q);
@@ -1163,7 +1044,7 @@ public final class PromisesTest {
             due("kept(" + n + ")", x.kept(n), BAD);
         }
         due("one not yet there", x.kept(3), BAD);
-        promise = 36;
+        promise(36);
         due("MUCH", x.keptCell(many, 0, 0), NO);
         for (int record = 10; record < 60; record++) {
             x.delete(0, record);
@@ -1177,7 +1058,7 @@ public final class PromisesTest {
             due("row " + n, x.keptCell(0, n, 0), NO);
             due("column " + n, x.keptCell(0, 0, n), NO);
         }
-        promise = 34;
+        promise(34);
         for (int k = 3; k < 8; k++) {
             due("keep", x.keep(q), k);
         }
@@ -1187,14 +1068,14 @@ public final class PromisesTest {
         due("nothing was run", x.count(5), 0);
     }
 
-    private static void changes() {
+    static void changes() {
         fresh(37);
         longs("1,2|3,4", 2);
         int q = x.source(0);
         due("begin", x.begin(), 1);
         due("again", x.begin(), STATE);
         due("count", x.count(7), 1);
-        promise = 38;
+        promise(38);
         x.insert(0);
         x.insert(9);
         x.fill(0, 3, 1, 1);
@@ -1220,7 +1101,7 @@ public final class PromisesTest {
         due("an empty one", x.commit(), 0);
     }
 
-    private static void rollbacks() {
+    static void rollbacks() {
         fresh(39);
         longs("1,2|3,-", 2);
         longs("5", 1);
@@ -1239,7 +1120,7 @@ public final class PromisesTest {
         due("how many", x.rollback(), 8);
         due("again", x.rollback(), STATE);
         due("commit", x.commit(), STATE);
-        dueRows("the run stays", latest(), "7,8");
+        dueText("the run stays", latest(x), "7,8");
         dueRun("table 0", q, "3,-");
         dueRun("table 1", 1, "5");
         due("records", x.records(1), 1);
@@ -1256,7 +1137,7 @@ public final class PromisesTest {
         due("what was committed", x.value(1, 0, 0), 6);
     }
 
-    private static void transfers() {
+    static void transfers() {
         fresh(40);
         longs("1,2|-,4", 2);
         longs("", 2);
@@ -1304,7 +1185,7 @@ public final class PromisesTest {
         due("up to 200 ever", x.transfer(x.cut(a, 0, 20), 1), 20);
     }
 
-    private static void counts() {
+    static void counts() {
         fresh(41);
         x.word(1);
         x.word(2);
@@ -1327,7 +1208,7 @@ public final class PromisesTest {
         for (int n : new int[] {-1, 8, Integer.MIN_VALUE, Integer.MAX_VALUE}) {
             due("count(" + n + ")", x.count(n), BAD);
         }
-        promise = 42;
+        promise(42);
         due("clear", x.clear(), 1);
         for (int what = 0; what < 8; what++) {
             due("count(" + what + ")", x.count(what), 0);
@@ -1348,46 +1229,7 @@ public final class PromisesTest {
         dueRun("source", 0, "4");
     }
 
-    public static void main(String[] args) {
-        newObject();
-        words();
-        tables();
-        inserts();
-        puts();
-        absents();
-        deletes();
-        fills();
-        valuesAndRecords();
-        compares();
-        pairs();
-        logics();
-        fitting();
-        sources();
-        wheres();
-        joins();
-        works();
-        worksOfOtherKinds();
-        groups();
-        collects();
-        collectsOfEdges();
-        orders();
-        oncesAndCuts();
-        alsos();
-        columnsAndKinds();
-        runs();
-        outerJoinsAtTheLimit();
-        latestRun();
-        looks();
-        costs();
-        expectations();
-        keeping();
-        changes();
-        rollbacks();
-        transfers();
-        counts();
-        System.out.println(wrong == 0 ? "all answers are as due" : wrong + " answers are not as due");
-        if (wrong != 0) {
-            System.exit(1);
-        }
+    public static void main(String[] args) throws IllegalAccessException {
+        playAll(PromisesTest.class);
     }
 }
