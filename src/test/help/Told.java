@@ -71,13 +71,22 @@ final class Told {
         }
         long answer = ask(name, arguments);
         if (forGood) {
-            if (name.equals("run") && answer >= 0) {
-                // Only the latest run that was not refused can be seen.
-                calls.removeIf(c -> c.name.equals("run") && c.answer >= 0);
+            if (name.equals("run")) {
+                forgetRuns(answer >= 0);
             }
             calls.add(new Call(name, arguments, answer));
         }
         return answer;
+    }
+
+    /** Only the latest run that was not refused can be seen; of refused ones in a row the last one may stand for all. */
+    private void forgetRuns(boolean all) {
+        int last = calls.size() - 1;
+        if (all) {
+            calls.removeIf(c -> c.name.equals("run"));
+        } else if (last >= 0 && calls.get(last).name.equals("run") && calls.get(last).answer < 0) {
+            calls.remove(last);
+        }
     }
 
     private void renew() {

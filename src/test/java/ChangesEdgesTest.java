@@ -492,6 +492,12 @@ public final class ChangesEdgesTest extends Checks {
                 int t = x.table(2, kinds(LONG, other));
                 due("LONG, " + kind + " into LONG, " + other, x.transfer(q, t), kind == other ? 0 : KIND);
             }
+            x = new Told();
+            int r = sourceOf("", kind, LONG);
+            for (int other = 0; other <= 4; other++) {
+                int t = x.table(2, kinds(other, LONG));
+                due(kind + ", LONG into " + other + ", LONG", x.transfer(r, t), kind == other ? 0 : KIND);
+            }
         }
         x = new Told();
         int q = sourceOf("5,6", LONG, LONG);

@@ -1069,8 +1069,34 @@ public final class PlainCounterTest {
         return y;
     }
 
+    /** Brings one of the document's limits near. */
+    private static void crowd(Told x, Plain y) {
+        int way = draw(5);
+        for (int i = 0; way == 0 && i < 95 + draw(6); i++) {
+            long w = (1 + i % 26) * 27 + 1 + i / 26;
+            same("word(" + w + ")", x.word(w), y.word(w));
+        }
+        for (int i = 0; way == 1 && i < 95 + draw(6); i++) {
+            same("pair(0, 0, 0)", x.pair(0, 0, 0), y.pair(0, 0, 0));
+        }
+        for (int i = 0; way == 2 && i < 35; i++) {
+            same("source(" + i % 3 + ")", x.source(i % 3), y.source(i % 3));
+        }
+        for (int i = 0; way == 3 && i < 3; i++) {
+            int n = 60 - y.records(0);
+            int first = y.t(0).next;
+            same("fill(0, " + n + ")", x.fill(0, n, 7, 4), y.fill(0, n, 7, 4));
+            for (int r = first; r < first + 47; r++) same("delete(0)", x.delete(0, r), y.delete(0, r));
+        }
+        for (int t = 0; way == 4 && t < 3; t++) {
+            int n = 60 - y.records(t) - draw(3);
+            same("fill(" + t + ", " + n + ")", x.fill(t, n, 77, 4), y.fill(t, n, 77, 4));
+        }
+    }
+
     private static Plain play(Told x, int calls) {
         Plain y = start(x);
+        if (calls < 160) crowd(x, y);
         int bias = draw(5);
         for (int i = 0; i < calls; i++) {
             int before = wrong;
@@ -1096,8 +1122,8 @@ public final class PlainCounterTest {
 
     private static void compareAtTheEnd(Told x, Plain y) {
         for (int t = 0; t < 6; t++) {
-            for (int record = 0; y.t(t) != null && record < 200; record++) {
-                for (int c = 0; c < 6; c++) same("value() at the end", x.value(t, record, c), y.value(t, record, c));
+            for (int record = 0; y.t(t) != null && record < Math.min(200, y.t(t).next + 2); record++) {
+                for (int c = 0; c <= y.t(t).kinds.length; c++) same("value() at the end", x.value(t, record, c), y.value(t, record, c));
             }
         }
         for (int q = 0; q < y.queries.size(); q++) {

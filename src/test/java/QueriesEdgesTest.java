@@ -179,6 +179,21 @@ public final class QueriesEdgesTest extends Checks {
         dueRun("the PAIR the other way", x.join(q, r, x.pair(0, 2, 0), 0), "2,10,2,20|2,10,2,23|1,11,1,22|2,12,2,20|2,12,2,23");
     }
 
+    static void joinKeepsAbsentOnes() {
+        sentence(0, "by way 0 each ROW of q, in order, with each ROW of r, in order, for which it is YES");
+        int q = sourceOf("1,-,-|2,0,-|3,-,0", LONG, LONG, LONG);
+        int r = sourceOf("-,1,0|0,2,-|-,3,-|0,1,0", LONG, LONG, LONG);
+        String both = "1,-,-,-,1,0|1,-,-,0,1,0|2,0,-,0,2,-|3,-,0,-,3,-";
+        for (int way = 0; way <= 1; way++) {
+            dueRun("KEYED by " + way, x.join(q, r, x.pair(0, 0, 4), way), both);
+            int not = x.logic(1, x.pair(0, 0, 4), x.pair(0, 4, 0));
+            dueRun("not KEYED by " + way, x.join(q, r, not, way), both);
+        }
+        int six = x.join(q, r, x.pair(0, 0, 4), 0);
+        dueRun("ABSENT in the last column", x.where(six, x.compare(3, 5, 0, 0)), "2,0,-,0,2,-|3,-,0,-,3,-");
+        dueRun("ABSENT in the first column of r", x.where(six, x.compare(3, 3, 0, 0)), "1,-,-,-,1,0|3,-,0,-,3,-");
+    }
+
     static void joinByWayOneComesOnce() {
         sentence(0, "1 likewise, but a ROW of q without any comes once, r's VALUES ABSENT");
         int q = sourceOf("2,10|1,11|-,13|3,14", LONG, LONG);
@@ -551,6 +566,22 @@ public final class QueriesEdgesTest extends Checks {
         due("the first KIND", x.kind(two, 0), DAY);
         due("the second KIND", x.kind(two, 1), LONG);
         due("a third one", x.kind(two, 2), BAD);
+    }
+
+    static void kindsOfEachSet() {
+        sentence(0, "GROUP by a set of q's columns: these, by numbers");
+        int[] kinds = {TRUTH, DAY, WORD, REAL};
+        int q = sourceOf("", kinds);
+        for (int set = 0; set < 16; set++) {
+            int g = x.group(q, set);
+            int at = 0;
+            for (int c = 0; c < 4; c++) {
+                if ((set >> c & 1) == 1) {
+                    due("set " + set + ", column " + at, x.kind(g, at++), kinds[c]);
+                }
+            }
+            due("set " + set + ", one behind", x.kind(g, at), BAD);
+        }
     }
 
     static void groupsOfAbsentOnes() {
@@ -969,7 +1000,10 @@ public final class QueriesEdgesTest extends Checks {
             int q = sourceOf("", LONG, kind);
             int r = sourceOf("", LONG, LONG);
             int one = sourceOf("", LONG);
-            due("LONG and " + kind, x.also(q, r), kind == LONG ? 3 : KIND);
+            due("LONG, " + kind + " and LONG, LONG", x.also(q, r), kind == LONG ? 3 : KIND);
+            int first = sourceOf("", kind, LONG);
+            due(kind + ", LONG and LONG, LONG", x.also(first, r), kind == LONG ? x.count(3) - 1 : KIND);
+            due("LONG, LONG and " + kind + ", LONG", x.also(r, first), kind == LONG ? x.count(3) - 1 : KIND);
             due("fewer COLUMNS", x.also(q, one), KIND);
             due("more COLUMNS", x.also(one, q), KIND);
             due("the same", x.also(q, q), x.count(3) - 1);

@@ -525,7 +525,7 @@ public final class RefusalsTest extends Checks {
 
     /** Its name brings it to the end: all refusals that the document names were checked. */
     static void zLastEachRefusalWasChecked() {
-        sentence(0, "Refusals, the first that fits: BAD .., KIND .., STATE, FULL, MUCH.");
+        sentence(0, "Refusals, the first that fits");
         for (String told : DOCUMENT) {
             String[] words = told.split(" ");
             TreeSet<String> want = new TreeSet<>(java.util.List.of(words).subList(1, words.length));

@@ -24,6 +24,10 @@ public final class RulesTest {
         "columns(int)int", "kind(int,int)int", "run(int,int)int", "cell(int,int)long", "isAbsent(int,int)int", "digest()int",
         "looked(int)int", "cost(int,int)long", "expected(int)int", "keep(int)int", "kept(int)int", "keptCell(int,int,int)long",
         "begin()int", "commit()int", "rollback()int", "transfer(int,int)int", "count(int)int", "clear()int"};
+    private static final Set<String> IMPORTS = Set.of("java.util.ArrayList", "java.util.List", "java.util.Arrays",
+        "java.util.Iterator");
+    private static final Set<String> LIBRARY = Set.of("System.arraycopy", "Arrays.copyOf", "Arrays.copyOfRange", "Arrays.fill",
+        "List.of");
     private static final String SOURCE = "src/main/java/RecordCounter.java";
     // The room holds 7.3 million fields and elements, most of which are longs here.
     private static final long MOST_BYTES = 30_000_000;
@@ -69,7 +73,8 @@ public final class RulesTest {
         List<Class<?>> inside = new ArrayList<>(Arrays.asList(face.getDeclaredClasses()));
         must(inside.size() <= 12, "rule 11: classes");
         for (Class<?> c : inside) {
-            must(Modifier.isStatic(c.getModifiers()) && Modifier.isPrivate(c.getModifiers()), "rule 2: " + c);
+            int m = c.getModifiers();
+            must(Modifier.isStatic(m) && !Modifier.isPublic(m) && !Modifier.isProtected(m), "rules 1, 2: " + c);
         }
         inside.add(face);
         for (Class<?> c : inside) {
@@ -88,25 +93,28 @@ public final class RulesTest {
         for (Method m : c.getDeclaredMethods()) {
             must(m.getParameterCount() <= 7, "rule 11: " + m);
             must(Modifier.isPublic(m.getModifiers()) || !names.contains(m.getName()), "rule 1, a name of the face: " + m);
-            must(!m.isSynthetic(), "made by the compiler: " + m);
         }
     }
 
     private static void source() throws Exception {
         String text = Files.readString(Path.of(SOURCE), StandardCharsets.UTF_8);
-        must(text.chars().allMatch(c -> c < 128), "plain characters");
         String code = text.replaceAll("(?s)/\\*.*?\\*/", "").replaceAll("//[^\n]*", "");
-        String[] words = {"throw", "throws", "try", "catch", "synchronized", "assert", "double", "float", "import", "package",
-            "volatile", "native", "Object", "hashCode", "toString", "yield"};
+        String[] words = {"throw", "throws", "try", "catch", "synchronized", "assert", "volatile", "native", "Object", "package",
+            "hashCode", "toString", "Double", "Float", "Thread", "Random", "println"};
         for (String word : words) {
             must(!Pattern.compile("\\b" + word + "\\b").matcher(code).find(), "the source has " + word);
         }
-        must(!code.contains("->") && !code.contains("::") && !code.contains("\""), "lambdas, method references, texts");
-        Set<String> library = Set.of("Math.min", "Math.max", "Math.abs", "Math.floorDiv", "Math.floorMod", "Integer.bitCount",
-            "System.arraycopy");
-        Matcher call = Pattern.compile("\\b(Math|Integer|Long|System|Arrays|String|Double)\\.\\w+").matcher(code);
+        must(!code.contains("->") && !code.contains("::"), "rule 2: lambdas, method references");
+        must(!Pattern.compile("\\bstatic\\s*\\{").matcher(code).find(), "rule 5: a static block");
+        must(!code.contains("\" +") && !code.contains("+ \""), "rule 10: texts that are joined by +");
+        Matcher brought = Pattern.compile("\\bimport\\s+([\\w.*]+)").matcher(code);
+        while (brought.find()) {
+            must(IMPORTS.contains(brought.group(1)), "rule 4: import " + brought.group(1));
+        }
+        Matcher call = Pattern.compile("\\b(Math|Integer|Long|System|Arrays|List)\\.(\\w+)").matcher(code);
         while (call.find()) {
-            must(library.contains(call.group()), "rule 4: " + call.group());
+            boolean number = call.group(1).equals("Math") || call.group(1).equals("Integer") || call.group(1).equals("Long");
+            must(number ? !call.group(2).endsWith("Exact") : LIBRARY.contains(call.group()), "rule 4: " + call.group());
         }
         methodLengths(text.split("\n"));
     }

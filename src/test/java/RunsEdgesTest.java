@@ -218,6 +218,23 @@ public final class RunsEdgesTest extends Checks {
         dueLooks("pairs of the KEY for which the TEST is NO", x.join(q, r, both, 0), 9 + 20, 9 + 9 + 4, 9 + 18 + 4);
     }
 
+    static void looksAreOfEachRunAlone() {
+        sentence(31, "At how many the latest run() LOOKED");
+        int q = sourceOf("1|1|2", LONG);
+        int j = x.join(q, q, x.pair(0, 0, 1), 2);
+        dueLooks("three RECORDS", j, 3 + 9, 3 + 6 + 5, 3 + 12 + 5);
+        dueLooks("again", j, 3 + 9, 3 + 6 + 5, 3 + 12 + 5);
+        x.put(0, 2, 0, 1);
+        dueLooks("behind a put", j, 3 + 9, 3 + 6 + 9, 3 + 12 + 9);
+        x.delete(0, 0);
+        dueLooks("behind a delete", j, 2 + 4, 2 + 4 + 4, 2 + 8 + 4);
+        x.begin();
+        x.absent(0, 1, 0);
+        dueLooks("in a change", j, 2 + 4, 2 + 4 + 1, 2 + 8 + 1);
+        x.rollback();
+        dueLooks("behind a rollback", j, 2 + 4, 2 + 4 + 4, 2 + 8 + 4);
+    }
+
     static void keysOfRealsAreByTheirBits() {
         sentence(0, "the pairs of both whose VALUES in the KEY are LIKE (none of them ABSENT)");
         int q = sourceOf("0|" + NO + "|" + NAN, REAL);
