@@ -145,10 +145,10 @@ public final class RulesTest {
         must(bytes <= MOST_BYTES, what + " takes " + bytes + " bytes");
     }
 
-    /** Tables of six columns, joins of twelve and all cleared again, for 512 calls. */
-    private static void madeAndCleared() {
+    /** A table of six columns, joins of twelve, and all cleared again: 45 calls each time. */
+    private static void joinsMadeAndCleared() {
         RecordCounter x = new RecordCounter();
-        for (int calls = 0; calls < 512;) {
+        for (int calls = 45; calls <= 512; calls += 45) {
             x.clear();
             x.table(6, 0);
             x.begin();
@@ -156,7 +156,17 @@ public final class RulesTest {
             x.pair(0, 0, 6);
             int six = x.source(0);
             for (int i = 0; i < 39; i++) x.join(six, six, 0, 0);
-            calls += 45;
+        }
+    }
+
+    /** Tables of six columns, each remembered by a change, and all cleared again: 9 calls each time. */
+    private static void tablesMadeAndCleared() {
+        RecordCounter x = new RecordCounter();
+        for (int calls = 9; calls <= 512; calls += 9) {
+            x.clear();
+            for (int i = 0; i < 6; i++) x.table(6, 0);
+            x.begin();
+            x.commit();
         }
     }
 
@@ -170,7 +180,7 @@ public final class RulesTest {
         int four = x.also(x.also(q, q), x.also(q, q));
         for (int i = 0; i < 36; i++) x.join(four, four, 0, 2 + i % 2);
         x.keep(39);
-        for (int i = 0; i < 150; i++) {
+        for (int i = 0; i < 116; i++) {
             x.begin();
             x.put(0, i % 50, 0, i % 5);
             x.run(39 - i % 30, 0);
@@ -185,7 +195,8 @@ public final class RulesTest {
     public static void main(String[] args) throws Exception {
         face();
         source();
-        room("a run that makes and clears", RulesTest::madeAndCleared);
+        room("a run that makes joins and clears", RulesTest::joinsMadeAndCleared);
+        room("a run that makes tables and clears", RulesTest::tablesMadeAndCleared);
         room("a run that runs again", RulesTest::runAgain);
         room("a run of many objects", RulesTest::manyObjects);
         System.out.println(wrong == 0 ? "all rules hold" : wrong + " rules are broken");
