@@ -648,4 +648,22 @@ public final class ChangesEdgesTest extends Checks {
         due("count", x.count(7), 0);
         due("a TABLE", x.table(1, 0), 0);
     }
+
+    static void manyClears() {
+        for (int clears = 0; clears <= 6; clears++) {
+            for (int records = 0; records <= 6; records++) {
+                sentence(42, "All is as at first: 1.");
+                for (int i = 0; i < clears; i++) {
+                    due("clear", x.clear(), 1);
+                }
+                int q = x.source(x.table(1, 0));
+                for (int i = 0; i < records; i++) {
+                    due("insert", x.insert(0), i);
+                }
+                due(clears + " clears, " + records + " RECORDS", x.run(q, 1), records);
+                x.insert(0);
+                due("and one more", x.run(q, 1), records + 1);
+            }
+        }
+    }
 }

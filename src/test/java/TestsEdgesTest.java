@@ -228,6 +228,28 @@ public final class TestsEdgesTest extends Checks {
         dueColumn("19 EITHERS, one in the second part of the next", x.work(q, 12, right, 0), 1, "1|0|-");
     }
 
+    static void joinsByTestsOfSizeForty() {
+        sentence(0, "SIZE .. 40 at most.");
+        int q = sourceOf("5|6|-", LONG);
+        int like = x.pair(0, 0, 1);
+        int nots = like;
+        for (int i = 0; i < 39; i++) {
+            nots = x.logic(2, nots, 0);
+        }
+        String[] want = {"5,6|6,5", "5,6|6,5|-,-", "5|6", "-"};
+        for (int way = 0; way <= 3; way++) {
+            due("39 NOTS by " + way, x.join(q, q, nots, way), 1 + way);
+            dueRun("39 NOTS by " + way, 1 + way, want[way]);
+        }
+        int chain = like;
+        for (int i = 0; i < 37; i++) {
+            chain = x.logic(2, chain, 0);
+        }
+        // NOT an odd number of times, BOTH with the NOT of it: never YES; EITHER: YES or UNKNOWN.
+        dueRun("BOTH of 1 and 38", x.join(q, q, x.logic(0, like, chain), 2), "");
+        dueRun("EITHER of 38 and 1", x.join(q, q, x.logic(1, chain, like), 2), "5|6");
+    }
+
     // ---- Terms and promise 14: FITS
 
     static void testsFitColumnsThatAreThere() {
