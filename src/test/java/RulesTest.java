@@ -1,6 +1,7 @@
 import java.lang.management.ManagementFactory;
 import java.lang.reflect.Constructor;
 import java.lang.reflect.Field;
+import java.lang.reflect.InvocationTargetException;
 import java.lang.reflect.Method;
 import java.lang.reflect.Modifier;
 import java.nio.charset.StandardCharsets;
@@ -8,13 +9,15 @@ import java.nio.file.Files;
 import java.nio.file.Path;
 import java.util.ArrayList;
 import java.util.Arrays;
+import java.util.Comparator;
 import java.util.List;
+import java.util.Random;
 import java.util.Set;
 import java.util.TreeSet;
 import java.util.regex.Matcher;
 import java.util.regex.Pattern;
 
-/** The public face, what LANGUAGE.md leaves of Java, and the room that dear runs take. */
+/** The public face, what LANGUAGE.md leaves of Java, the room that dear runs take, and calls with any arguments. */
 public final class RulesTest {
     private static final String[] FACE = {"word(long)int", "table(int,int)int", "insert(int)int", "put(int,int,int,long)int",
         "absent(int,int,int)int", "delete(int,int)int", "fill(int,int,int,int)int", "value(int,int,int)long", "records(int)int",
@@ -192,9 +195,48 @@ public final class RulesTest {
         for (int i = 0; i < 256; i++) new RecordCounter().clear();
     }
 
+    // ---- any arguments
+
+    private static final long[] FAR = {Long.MIN_VALUE, Long.MAX_VALUE, Integer.MIN_VALUE, Integer.MAX_VALUE, -1, 0};
+
+    /** Mostly a number that something may have, else one about the limits, or a far one. */
+    private static Object argument(Class<?> type, Random draws) {
+        int sort = draws.nextInt(12);
+        long n = sort == 0 ? draws.nextLong() : sort == 1 ? FAR[draws.nextInt(FAR.length)]
+            : sort == 2 ? draws.nextInt(250) : sort == 3 ? draws.nextInt(45) - 2 : draws.nextInt(6);
+        if (type == boolean.class) return draws.nextBoolean();
+        return type == int.class ? (Object) (int) n : (Object) n;
+    }
+
+    private static void anyCalls(List<Method> calls, Random draws) throws Exception {
+        RecordCounter x = new RecordCounter();
+        for (int i = 0; i < 512; i++) {
+            Method m = calls.get(draws.nextInt(calls.size()));
+            if (m.getName().equals("clear") && draws.nextInt(20) != 0) continue;
+            Object[] arguments = new Object[m.getParameterCount()];
+            for (int a = 0; a < arguments.length; a++) arguments[a] = argument(m.getParameterTypes()[a], draws);
+            try {
+                m.invoke(x, arguments);
+            } catch (InvocationTargetException e) {
+                must(false, "rule 7: " + m.getName() + Arrays.toString(arguments) + " throws " + e.getCause());
+                return;
+            }
+        }
+    }
+
+    private static void anyArguments() throws Exception {
+        List<Method> calls = new ArrayList<>();
+        for (Method m : RecordCounter.class.getDeclaredMethods()) {
+            if (Modifier.isPublic(m.getModifiers())) calls.add(m);
+        }
+        calls.sort(Comparator.comparing(Method::getName));
+        for (int seed = 1; seed <= 600; seed++) anyCalls(calls, new Random(seed));
+    }
+
     public static void main(String[] args) throws Exception {
         face();
         source();
+        anyArguments();
         room("a run that makes joins and clears", RulesTest::joinsMadeAndCleared);
         room("a run that makes tables and clears", RulesTest::tablesMadeAndCleared);
         room("a run that runs again", RulesTest::runAgain);
